@@ -164,35 +164,34 @@ public final class QuietChecker {
     private static final class Op {
         static final int NOTHING = 0;
         static final int STEP = 1;
-        static final int HALT = 2;
-        static final int PUSH = 3;
-        static final int LOAD = 4;
-        static final int STORE = 5;
-        static final int READ = 6;
-        static final int WRITE = 7;
-        static final int BRANCH = 8;
-        static final int JUMP_IF_ZERO = 9;
-        static final int JUMP = 10;
-        static final int CALL = 11;
-        static final int RETURN = 12;
-        static final int CHOOSE = 13;
-        static final int NEGATE = 14;
-        static final int INVERT = 15;
-        static final int NOT = 16;
-        static final int OR = 17;
-        static final int XOR = 18;
-        static final int AND = 19;
-        static final int EQUAL = 20;
-        static final int UNEQUAL = 21;
-        static final int LESS = 22;
-        static final int AT_MOST = 23;
-        static final int SHIFT_LEFT = 24;
-        static final int SHIFT_RIGHT = 25;
-        static final int ADD = 26;
-        static final int SUBTRACT = 27;
-        static final int MULTIPLY = 28;
-        static final int DIVIDE = 29;
-        static final int REMAINDER = 30;
+        static final int PUSH = 2;
+        static final int LOAD = 3;
+        static final int STORE = 4;
+        static final int READ = 5;
+        static final int WRITE = 6;
+        static final int BRANCH = 7;
+        static final int JUMP_IF_ZERO = 8;
+        static final int JUMP = 9;
+        static final int CALL = 10;
+        static final int RETURN = 11;
+        static final int CHOOSE = 12;
+        static final int NEGATE = 13;
+        static final int INVERT = 14;
+        static final int NOT = 15;
+        static final int OR = 16;
+        static final int XOR = 17;
+        static final int AND = 18;
+        static final int EQUAL = 19;
+        static final int UNEQUAL = 20;
+        static final int LESS = 21;
+        static final int AT_MOST = 22;
+        static final int SHIFT_LEFT = 23;
+        static final int SHIFT_RIGHT = 24;
+        static final int ADD = 25;
+        static final int SUBTRACT = 26;
+        static final int MULTIPLY = 27;
+        static final int DIVIDE = 28;
+        static final int REMAINDER = 29;
     }
 
     /** The kinds of tokens; a higher level binds more, and level 0 is no sign between two. */
@@ -445,18 +444,13 @@ public final class QuietChecker {
         }
 
         int secretOnes() {
-            return Integer.bitCount(secretBits(0)) + Integer.bitCount(secretBits(Integer.SIZE));
-        }
-
-        /** The labels of up to 32 names from one on, the first of them in the lowest bit. */
-        int secretBits(int from) {
-            int bits = 0;
-            for (int k = 0; k < Integer.SIZE; k++) {
-                if (isSecret(from + k)) {
-                    bits |= 1 << k;
+            int ones = 0;
+            for (int k = 0; k < count; k++) {
+                if (secrets[k]) {
+                    ones++;
                 }
             }
-            return bits;
+            return ones;
         }
 
         boolean hasCharacter(int k, int i) {
@@ -476,8 +470,8 @@ public final class QuietChecker {
         static final int MOST_CELLS = 64;
         static final int TOP_CELLS = MOST_TOP * MOST_CELLS;
         static final int ALL_CELLS = TOP_CELLS + MOST_FUNCTIONS * MOST_LOCALS;
-        /** No text makes more instructions than it has characters, but for the one at the end. */
-        private static final int MOST_CODE = MOST_TEXT + 1;
+        /** No text makes more instructions than it has characters. */
+        private static final int MOST_CODE = MOST_TEXT;
 
         final char[] text;
         int length;
@@ -489,7 +483,7 @@ public final class QuietChecker {
         final Names functions;
         final int[] entries;
         private final int[] parameters;
-        private final int[] secretParameters;
+        private final boolean[] secretParameters;
         final int[] ops;
         final int[] details;
         int codeLength;
@@ -505,7 +499,7 @@ public final class QuietChecker {
             functions = new Names(text, MOST_FUNCTIONS);
             entries = new int[MOST_FUNCTIONS];
             parameters = new int[MOST_FUNCTIONS];
-            secretParameters = new int[MOST_FUNCTIONS];
+            secretParameters = new boolean[MOST_FUNCTIONS * MOST_LOCALS];
             ops = new int[MOST_CODE];
             details = new int[MOST_CODE];
         }
@@ -553,7 +547,9 @@ public final class QuietChecker {
             }
             entries[functions.count] = codeLength;
             parameters[functions.count] = given.count;
-            secretParameters[functions.count] = given.secretBits(0);
+            for (int k = 0; k < MOST_LOCALS; k++) {
+                secretParameters[functions.count * MOST_LOCALS + k] = given.isSecret(k);
+            }
         }
 
         boolean isArray(int k) {
@@ -573,7 +569,8 @@ public final class QuietChecker {
         }
 
         boolean takesSecret(int function, int parameter) {
-            return functions.has(function) && (secretParameters[function] >>> parameter & 1) != 0;
+            return parameter >= 0 && parameter < parametersOf(function)
+                    && secretParameters[function * MOST_LOCALS + parameter];
         }
 
         int emit(int op, int detail) {
@@ -647,7 +644,6 @@ public final class QuietChecker {
             program.start = program.codeLength;
             statements(0);
             expect(Kind.END);
-            program.emit(Op.HALT, 0);
             if (fault != 0) {
                 program.clear();
                 return fault;
@@ -1124,9 +1120,6 @@ public final class QuietChecker {
             switch (op) {
                 case Op.STEP:
                     step();
-                    break;
-                case Op.HALT:
-                    end = ALL_DONE;
                     break;
                 case Op.PUSH:
                     push(detail);

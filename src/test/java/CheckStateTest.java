@@ -4,6 +4,7 @@ public final class CheckStateTest {
         emptiesTheText();
         forgetsInputsAndRuns();
         aFaultLeavesNoProgram();
+        readsLongTextsOneBehindTheOther();
         Probe.finish();
     }
 
@@ -36,6 +37,18 @@ public final class CheckStateTest {
             x.run(9);
             Probe.due("value", x.value(1, 0), 5);
         }
+    }
+
+    private static void readsLongTextsOneBehindTheOther() {
+        QuietChecker x = new QuietChecker();
+        for (int round = 0; round < 2; round++) {
+            Probe.feed(x, "pub x; x = 1" + Probe.repeated("+1", 990) + ";");
+            Probe.due("check", x.check(), 0);
+            x.run(1);
+            Probe.due("value", x.value(0, 0), 991);
+        }
+        QuietChecker longest = Probe.running("pub x;x=1" + Probe.repeated("+1", 1495) + ";");
+        Probe.due("value of the longest text", longest.value(0, 0), 1496);
     }
 
     private static void aFaultLeavesNoProgram() {

@@ -24,6 +24,8 @@ public final class CountTest {
             many.append("sec v").append(k).append("[2];");
         }
         dueCounts(Probe.reading(many.toString()), 40, 0, 40, 40, 0, 0, 1);
+        String publicOnes = many.toString().replace("sec", "pub");
+        dueCounts(Probe.reading(publicOnes.replace("pub v39[2]", "sec v39")), 40, 0, 1, 39, 0, 0, 1);
     }
 
     private static void countsTheRun() {

@@ -79,6 +79,7 @@ public final class NoteTest {
         Probe.due("notes", z.count(7), 4000);
         Probe.due("the last note", z.note(3999), 2 * odd.indexOf("while") + 1);
         Probe.due("y", z.value(1, 0), 1999);
+        Probe.due("the cell that could not be noted", z.value(2, 1), 1999);
         QuietChecker all = Probe.reading("pub x; while x < 3999 { x = x + 1; }");
         Probe.due("end with 4000 notes", all.run(20000), 0);
         Probe.due("notes", all.count(7), 4000);

@@ -8,6 +8,7 @@ public final class RunTest {
         order();
         steps();
         ends();
+        leavesNothingForTheNextRun();
         refuses();
         Probe.finish();
     }
@@ -195,6 +196,21 @@ public final class RunTest {
                 + Probe.repeated("f() + ", 400) + "0; while 1 { y = " + Probe.repeated("f() + ", 20) + "0; }");
         Probe.due("end with the most fuel", x.run(20000), 1);
         Probe.due("steps with the most fuel", x.count(8), 20000);
+    }
+
+    private static void leavesNothingForTheNextRun() {
+        QuietChecker x = Probe.reading("pub x; pub d; x = 1 + 1 * (1 + 1 * (1 + 1 * (1 + 1 * (1 + 1 / d))));");
+        for (int round = 0; round < 450; round++) {
+            x.run(1);
+        }
+        Probe.due("the end of these runs", x.count(9), 3);
+        x.put(1, 0, 1);
+        x.run(1);
+        Probe.due("value of a run behind many that broke off", x.value(0, 0), 6);
+        QuietChecker y = Probe.running("pub a[3]; pub b[3]; pub c; b[64] = 5;");
+        Probe.due("a cell beside an array", y.value(2, 0), 0);
+        QuietChecker z = Probe.running("pub a[3]; pub b[3]; b[-64] = 5;");
+        Probe.due("a cell before an array", z.value(0, 0), 0);
     }
 
     private static void refuses() {

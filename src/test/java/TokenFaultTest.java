@@ -10,6 +10,7 @@ public final class TokenFaultTest {
         statements();
         expressions();
         theEnd();
+        anEarlierText();
         Probe.finish();
     }
 
@@ -49,6 +50,8 @@ public final class TokenFaultTest {
             Probe.dueFault(1, "pub x; x = @" + word + ";");
             Probe.dueFault(1, "fun pub @" + word + "() { return 0; }");
         }
+        Probe.dueNoFault("pub AZaz09_; AZaz09_ = 1; ");
+        Probe.dueNoFault("pub A; pub Z; pub a; pub z; A = Z; a = z;");
         Probe.dueFault(1, "@7x;");
     }
 
@@ -167,6 +170,25 @@ public final class TokenFaultTest {
         Probe.dueFault(1, "pub x; x = 1 # ;@");
         Probe.dueFault(1, "fun@");
         Probe.dueFault(1, "while 1 {@");
-        Probe.dueFault(1, "skip;" + Probe.repeated(" ", 2990) + "if @");
+        for (String last : new String[] {"if", "pub x", "pub x; x = 12", "pub x; x", "pub x; x = x"}) {
+            Probe.dueFault(1, Probe.repeated(" ", 3000 - last.length()) + last + "@");
+        }
+    }
+
+    /** What an earlier text had behind the place where this one ends must not be read. */
+    private static void anEarlierText() {
+        QuietChecker x = new QuietChecker();
+        Probe.feed(x, "pub x; x = 1234567890123; x = abcdefghijklmnopqrstuvwxyz; skip;");
+        x.check();
+        Probe.feed(x, "pub x; x = 1");
+        Probe.due("check of a number at the end", x.check(), 1 + 16 * 12);
+        Probe.feed(x, "pub x; x = 12345; x = abc = 1; ab");
+        x.check();
+        Probe.feed(x, "pub x; x = 12345; x = x");
+        Probe.due("check of a word at the end", x.check(), 1 + 16 * 23);
+        Probe.feed(x, "skip");
+        Probe.due("check", x.check(), 1 + 16 * 4);
+        Probe.feed(x, "pub x; x = 1 <");
+        Probe.due("check of a sign at the end", x.check(), 1 + 16 * 14);
     }
 }
