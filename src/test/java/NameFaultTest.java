@@ -64,38 +64,38 @@ public final class NameFaultTest {
     }
 
     private static void tooManyNames() {
-        Probe.dueNoFault(declarations("v", 40));
-        Probe.dueFault(4, declarations("v", 40) + "sec @w;");
-        Probe.dueFault(4, declarations("v", 40) + "sec @w[2];");
-        Probe.dueFault(4, declarations("v", 40) + "sec @w");
-        Probe.dueFault(3, declarations("v", 40) + "sec @v7;");
-        Probe.dueFault(1, declarations("v", 40) + "sec @if;");
-        Probe.dueNoFault("fun pub f() {" + declarations("v", 12) + "return v11; }");
-        Probe.dueFault(4, "fun pub f() {" + declarations("v", 12) + "pub @w; return 1; }");
-        Probe.dueFault(4, "fun pub f(pub a, pub b) {" + declarations("v", 10) + "pub @w; return 1; }");
-        Probe.dueFault(3, "fun pub f(pub a, pub b) {" + declarations("v", 10) + "pub @b; return 1; }");
-        Probe.dueFault(4, "fun pub f(" + parameters(12) + ", pub @w) { return 1; }");
-        Probe.dueNoFault("fun pub f(" + parameters(12) + ") { return p11; }");
-        Probe.dueNoFault(functions(6) + declarations("v", 40));
-        Probe.dueFault(4, functions(6) + "fun pub @g() { return 1; }");
-        Probe.dueFault(3, functions(6) + "fun pub @f0() { return 1; }");
+        Probe.dueNoFault(Texts.declarations("v", 40, ""));
+        Probe.dueFault(4, Texts.declarations("v", 40, "") + "sec @w;");
+        Probe.dueFault(4, Texts.declarations("v", 40, "") + "sec @w[2];");
+        Probe.dueFault(4, Texts.declarations("v", 40, "") + "sec @w");
+        Probe.dueFault(3, Texts.declarations("v", 40, "") + "sec @v7;");
+        Probe.dueFault(1, Texts.declarations("v", 40, "") + "sec @if;");
+        Probe.dueNoFault("fun pub f() {" + Texts.declarations("v", 12, "") + "return v11; }");
+        Probe.dueFault(4, "fun pub f() {" + Texts.declarations("v", 12, "") + "pub @w; return 1; }");
+        Probe.dueFault(4, "fun pub f(pub a, pub b) {" + Texts.declarations("v", 10, "") + "pub @w; return 1; }");
+        Probe.dueFault(3, "fun pub f(pub a, pub b) {" + Texts.declarations("v", 10, "") + "pub @b; return 1; }");
+        Probe.dueFault(4, "fun pub f(" + Texts.parameters(12) + ", pub @w) { return 1; }");
+        Probe.dueNoFault("fun pub f(" + Texts.parameters(12) + ") { return p11; }");
+        Probe.dueNoFault(Texts.functions(6) + Texts.declarations("v", 40, ""));
+        Probe.dueFault(4, Texts.functions(6) + "fun pub @g() { return 1; }");
+        Probe.dueFault(3, Texts.functions(6) + "fun pub @f0() { return 1; }");
     }
 
     private static void tooDeepStatements() {
         for (String head : new String[] {"if 1 {", "while 1 {", "if 1 { } else {"}) {
-            Probe.dueNoFault("pub x; " + nested(head, 9, "skip; x = 1; if x { } while x { }"));
-            Probe.dueNoFault("pub x; " + nested(head, 10, ""));
-            Probe.dueFault(4, "pub x; " + nested(head, 10, "@skip;"));
-            Probe.dueFault(4, "pub x; " + nested(head, 10, "@x = 1;"));
-            Probe.dueFault(4, "pub x; " + nested(head, 10, "@if 1 { }"));
-            Probe.dueFault(4, "pub x; " + nested(head, 10, "@while 1 { }"));
-            Probe.dueFault(2, "pub x; " + nested(head, 10, "@y = 1;"));
-            Probe.dueFault(2, "pub x; " + nested(head, 10, "@x[0] = 1;"));
-            Probe.dueFault(1, "pub x; " + nested(head, 10, "@5;"));
+            Probe.dueNoFault("pub x; " + Texts.nested(head, 9, "skip; x = 1; if x { } while x { }"));
+            Probe.dueNoFault("pub x; " + Texts.nested(head, 10, ""));
+            Probe.dueFault(4, "pub x; " + Texts.nested(head, 10, "@skip;"));
+            Probe.dueFault(4, "pub x; " + Texts.nested(head, 10, "@x = 1;"));
+            Probe.dueFault(4, "pub x; " + Texts.nested(head, 10, "@if 1 { }"));
+            Probe.dueFault(4, "pub x; " + Texts.nested(head, 10, "@while 1 { }"));
+            Probe.dueFault(2, "pub x; " + Texts.nested(head, 10, "@y = 1;"));
+            Probe.dueFault(2, "pub x; " + Texts.nested(head, 10, "@x[0] = 1;"));
+            Probe.dueFault(1, "pub x; " + Texts.nested(head, 10, "@5;"));
         }
-        String deep = nested("if 1 {", 9, "x = 1;");
+        String deep = Texts.nested("if 1 {", 9, "x = 1;");
         Probe.dueNoFault("pub x; fun pub f() { " + deep + " return 1; } " + deep);
-        Probe.dueFault(4, "pub x; fun pub f() { " + nested("if 1 {", 10, "@x = 1;") + " return 1; }");
+        Probe.dueFault(4, "pub x; fun pub f() { " + Texts.nested("if 1 {", 10, "@x = 1;") + " return 1; }");
     }
 
     private static void tooDeepExpressions() {
@@ -136,7 +136,7 @@ public final class NameFaultTest {
         Probe.dueNoFault("fun pub g() { return 1; } pub x; x = g( );");
         Probe.dueFault(2, START + "x = f(1, @y);");
         Probe.dueFault(1, START + "x = f(1, 2@;");
-        Probe.dueFault(5, "fun pub g(" + parameters(12) + ") { return 1; } pub x; x = g("
+        Probe.dueFault(5, "fun pub g(" + Texts.parameters(12) + ") { return 1; } pub x; x = g("
                 + Probe.repeated("1,", 10) + "1@);");
     }
 
@@ -146,33 +146,5 @@ public final class NameFaultTest {
         Probe.dueFault(2, "sec s; pub p; p = s; if s { } @y = 1;");
         Probe.dueFault(1, "sec s; pub p; p = s; @$");
         Probe.dueFault(3, "sec s; pub @s; $");
-    }
-
-    private static String declarations(String name, int n) {
-        StringBuilder text = new StringBuilder();
-        for (int k = 0; k < n; k++) {
-            text.append(k % 2 == 0 ? "sec " : "pub ").append(name).append(k).append("; ");
-        }
-        return text.toString();
-    }
-
-    private static String parameters(int n) {
-        StringBuilder text = new StringBuilder();
-        for (int k = 0; k < n; k++) {
-            text.append(k == 0 ? "pub p" : ", pub p").append(k);
-        }
-        return text.toString();
-    }
-
-    private static String functions(int n) {
-        StringBuilder text = new StringBuilder();
-        for (int k = 0; k < n; k++) {
-            text.append("fun pub f").append(k).append("() { return 1; } ");
-        }
-        return text.toString();
-    }
-
-    private static String nested(String head, int times, String inner) {
-        return Probe.repeated(head, times) + inner + Probe.repeated("}", times);
     }
 }

@@ -104,6 +104,43 @@ final class Probe {
         }
     }
 
+    /** All that can be asked of an object whose declarations and notes are few, as one text. */
+    static String state(QuietChecker x) {
+        StringBuilder all = new StringBuilder();
+        for (int what = 0; what <= 10; what++) {
+            all.append("count ").append(x.count(what)).append(' ');
+        }
+        for (int k = 0; k < x.count(0); k++) {
+            all.append(x.letter(k, false, 0));
+            for (int i = 0; i < 8; i++) {
+                int at = i;
+                int which = k;
+                all.append(' ').append(answered(() -> x.value(which, at)));
+            }
+        }
+        for (int i = 0; i < x.count(7); i++) {
+            all.append(" note ").append(x.note(i));
+        }
+        return all.toString();
+    }
+
+    private static String answered(java.util.function.IntSupplier call) {
+        try {
+            return String.valueOf(call.getAsInt());
+        } catch (IndexOutOfBoundsException | IllegalStateException e) {
+            return e.getClass().getSimpleName();
+        }
+    }
+
+    /** That a call left all as it was. */
+    static void dueState(String call, QuietChecker x, String before) {
+        String now = state(x);
+        if (!now.equals(before)) {
+            wrong++;
+            System.out.println("behind " + call + " there is " + now + ", due is " + before);
+        }
+    }
+
     static String repeated(String piece, int times) {
         return piece.repeat(times);
     }
