@@ -17,6 +17,7 @@ public final class ProgramEdgeTest {
         functionsHaveNamesOfTheirOwn();
         knownFromWhereItIsToldOn();
         wholeBeforeIt();
+        nothingOfAnEarlierProgram();
         Probe.finish();
     }
 
@@ -266,6 +267,29 @@ public final class ProgramEdgeTest {
         Probe.dueFault(2, "fun pub f(pub n) { return n; } fun pub g() { return @n; }");
         Probe.dueFault(2, "fun pub f() { pub m; return m; } pub x; x = @m;");
         Probe.dueFault(2, "fun pub f(pub n) { return n; } @n = 1;");
+    }
+
+    /** "A name is known from where it is told on": what an earlier text told is not known in the next */
+    private static void nothingOfAnEarlierProgram() {
+        String[] earlier = {
+            "pub x; sec a[3]; fun sec f(sec n) { sec m; return n; } x = 1;",
+            "pub x; sec a[3]; fun sec f(sec n) { sec m; return n; } fun sec g(sec n) { sec m; m = $",
+            "pub x; sec a[3]; fun sec f(sec n, sec m"};
+        String[] next = {"x = 1;", "a[0] = 1;", "n = 1;", "m = 1;", "pub y; y = n;", "pub y; y = m;", "pub y; y = f(1);",
+            "fun pub h() { return n; }", "fun pub h() { return f(1); }"};
+        int[] due = {0, 0, 0, 0, 11, 11, 11, 21, 21};
+        for (String text : earlier) {
+            QuietChecker x = Probe.reading(text);
+            for (int k = 0; k < next.length; k++) {
+                Probe.feed(x, next[k]);
+                Probe.due("check of " + next[k] + " behind " + text, x.check(), 2 + 16 * due[k]);
+            }
+            QuietChecker y = Probe.reading(text);
+            Probe.feed(y, "pub n; pub m[2]; n = 5; m[1] = n;");
+            Probe.due("check of names that only a function had", y.check(), 0);
+            y.run(9);
+            Probe.due("value", y.value(1, 1), 5);
+        }
     }
 
     /** "a function may call those that stand whole before it" */
