@@ -613,6 +613,9 @@ public final class QuietChecker {
         private final Tokens tokens;
         private final Names locals;
         private boolean inFunction;
+        /** Of the function that is read: the token of its name, and its label. */
+        private int functionName;
+        private boolean functionSecret;
         private int fault;
         private int leak;
         /** The token that is read next, with its kind and place. */
@@ -636,7 +639,9 @@ public final class QuietChecker {
             goTo(0);
             for (int left = MOST_TEXT; left > 0 && kind.tellsName(); left--) {
                 if (kind == Kind.FUN) {
-                    function();
+                    beginFunction();
+                    statements(0);
+                    endFunction();
                 } else {
                     declaration();
                 }
@@ -736,10 +741,10 @@ public final class QuietChecker {
             return cells;
         }
 
-        private void function() {
+        private void beginFunction() {
             advance();
-            boolean secret = label();
-            int name = newName(program.functions);
+            functionSecret = label();
+            functionName = newName(program.functions);
             locals.clear();
             parameters();
             program.beginFunction(locals);
@@ -749,19 +754,22 @@ public final class QuietChecker {
                 local();
                 expect(Kind.SEMICOLON);
             }
-            statements(0);
+        }
+
+        private void endFunction() {
             int word = place;
             expect(Kind.RETURN);
-            if (expression(0) && !secret) {
+            if (expression(0) && !functionSecret) {
                 tellLeak(SECRET_TO_PUBLIC, word);
             }
             expect(Kind.SEMICOLON);
             expect(Kind.CLOSE_BLOCK);
             program.emit(Op.RETURN, 0);
             inFunction = false;
-            if (name != NONE) {
+            if (functionName != NONE) {
                 // Told only now that it stands whole, so that it can't call itself.
-                program.functions.add(tokens.places[name], tokens.sizes[name], secret);
+                program.functions.add(
+                        tokens.places[functionName], tokens.sizes[functionName], functionSecret);
             }
         }
 
